@@ -125,6 +125,13 @@ public final class PromisesTest {
         due(4, "block(1, 1)", x.block(1, 1), 9);
         due(4, "six blocks", told("plain 1;plain 2;plain 3;plain 4;plain 5;plain 6;").rule(0), 6);
         due(4, "four rolls", told("roll 1 1;roll 2 2;roll 3 3;roll 9 9;").rule(8), 4);
+        FriezeFolk least = told("plain 0;confider 0;child 0;clerk 0;wall 1 0;window 0 0;upside 0;");
+        due(4, "least numbers", least.rule(0), 4);
+        FriezeFolk most = told("plain 9;confider 9;child 9;clerk 9;wall 12 5;window 11 11;upside 11;");
+        due(4, "most numbers", most.count(4), 36);
+        tell(most, "plain 1;");
+        due(4, "text() behind a shift", most.text(), 1);
+        due(4, "rule(2)", most.rule(2), 0);
     }
 
     private static void textRefused() {
@@ -139,6 +146,8 @@ public final class PromisesTest {
         refused("plainwall 1;", 2, 0);
         refused("plai 1;", 2, 0);
         refused("plains 1;", 2, 0);
+        refused("plainz 1;", 2, 0);
+        refused("xlain 1;", 2, 0);
         refused(";", 2, 0);
         refused("5;", 2, 0);
         refused("plain 1;;", 2, 8);
@@ -153,6 +162,9 @@ public final class PromisesTest {
         refused("wall 1;", 2, 6);
         refused("plain 1 plain 1;", 2, 8);
         refused("plain 10;", 3, 6);
+        refused("confider 10;", 3, 9);
+        refused("child 10;", 3, 6);
+        refused("clerk 99;", 3, 6);
         refused("wall 0 #", 3, 5);
         refused("wall 13 0;", 3, 5);
         refused("wall 1 6;", 3, 7);
@@ -287,6 +299,8 @@ public final class PromisesTest {
         due(13, "paint(11, 5)", x.paint(11, 5), 99);
         due(13, "paint(11, 100)", x.paint(11, 100), BAD);
         due(13, "paint(11, -1)", x.paint(11, -1), BAD);
+        due(13, "paint(11, 0)", x.paint(11, 0), 5);
+        due(13, "paint(11, 5)", x.paint(11, 5), 0);
         due(13, "paint(-1, 1)", x.paint(-1, 1), BAD);
         due(13, "paint(12, 1)", x.paint(12, 1), BAD);
         x.set(0, 4);
@@ -369,6 +383,7 @@ public final class PromisesTest {
         due(18, "runs(1, 2)", y.runs(1, 2), 1);
         due(18, "runs(9, 1)", y.runs(9, 1), 1);
         due(19, "ahead(0, 8)", y.ahead(0, 8), 1);
+        due(19, "ahead(0, 0)", y.ahead(0, 0), 9);
         due(19, "ahead(0, 60)", y.ahead(0, 60), 0);
         due(19, "ahead(1, 60)", y.ahead(1, 60), 9);
         due(19, "ahead(0, 61)", y.ahead(0, 61), BAD);
@@ -399,6 +414,9 @@ public final class PromisesTest {
         due(21, "stretch(1, 2)", x.stretch(1, 2), BAD);
         due(21, "stretch(1, -1)", x.stretch(1, -1), BAD);
         due(21, "stretch(2, 0), the first", told("plain 1;").stretch(2, 0), 0);
+        FriezeFolk rising = told("plain 1;plain 2;plain 3;wall 3 0;");
+        due(21, "stretch(2, 0), the last", rising.stretch(2, 0), 1);
+        due(21, "stretch(2, 1), the last", rising.stretch(2, 1), 5);
         due(22, "hang(0)", x.hang(0), 1);
         due(22, "hang(1)", x.hang(1), 81);
         due(22, "hang(2)", x.hang(2), BAD);
@@ -406,6 +424,8 @@ public final class PromisesTest {
         due(22, "rule(2) is left alone", x.rule(2), 2);
         FriezeFolk five = told("plain 0;plain 0;plain 0;plain 0;plain 0;plain 9;wall 1 0;");
         due(22, "hang(0), the last", five.hang(0), 5);
+        five.alter(0, 1, 9);
+        due(22, "hang(0), the first", five.hang(0), 0);
         due(23, "shade(0, 0)", x.shade(0, 0), 0);
         due(23, "shade(6, 0)", x.shade(6, 0), 11);
         due(23, "shade(60, 1)", x.shade(60, 1), 69);
@@ -421,6 +441,9 @@ public final class PromisesTest {
         FriezeFolk three = told("plain 1;plain 2;plain 9;plain 9;wall 1 0;");
         due(24, "swap(0), of several", three.swap(0), 2);
         due(24, "swap(1), of several", three.swap(1), 9);
+        FriezeFolk later = told("plain 9;plain 2;plain 1;plain 5;wall 3 0;");
+        due(24, "swap(0), two behind", later.swap(0), 23);
+        due(24, "swap(1), two behind", later.swap(1), 16);
         due(24, "swap(0), none", told("plain 9;plain 2;wall 1 0;").swap(0), NONE);
         due(24, "swap(1), none", told("plain 9;plain 2;wall 1 0;").swap(1), NONE);
         due(24, "swap(0), one block", told("plain 9;").swap(0), NONE);
@@ -431,6 +454,8 @@ public final class PromisesTest {
         due(25, "period() of one block", told("plain 1;").period(), 1);
         due(25, "period() by warmth", told("plain 1;plain 1;plain 2;").period(), 3);
         due(25, "period() by kind", told("plain 1;clerk 1;").period(), 2);
+        due(25, "period() by both", told("plain 2;confider 1;").period(), 2);
+        due(25, "period(), another only behind the wall", told("plain 1;plain 1;plain 2;wall 2 0;").period(), 1);
         due(25, "period() of like blocks", told("plain 1;clerk 1;plain 1;clerk 1;").period(), 2);
         due(25, "period() of a short wall", told("plain 1;plain 2;plain 3;wall 2 0;").period(), 2);
         due(25, "period() of one place", told("plain 1;plain 2;wall 1 0;").period(), 1);

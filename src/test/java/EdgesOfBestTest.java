@@ -102,6 +102,9 @@ public final class EdgesOfBestTest {
         Desk.due("swap(1)", later.swap(1), 14);
         Desk.due("swap(0) by the place of the confider", Desk.told("confider 1;plain 1;wall 3 0;").swap(0), NONE);
         Desk.due("swap(0) by the place of the confider", Desk.told("plain 1;confider 1;wall 3 0;").swap(0), 1);
+        FriezeFolk both = Desk.told("clerk 9;child 1;wall 3 0;");
+        Desk.due("swap(0), kind and warmth of both: 2, 4, 8 for 4, 2, 4", both.swap(0), 1);
+        Desk.due("swap(1)", both.swap(1), 14);
         Desk.still(BUSY, "swap(0)", x -> x.swap(0), BUSY.make().swap(0));
         Desk.sentence(24, "BAD; NONE: by none.");
         for (int what = 0; what < 2; what++) {
@@ -129,6 +132,8 @@ public final class EdgesOfBestTest {
         Desk.due("period(), it is no place", Desk.told("plain 1;plain 1;plain 2;wall 2 0;").period(), 1);
         Desk.due("period() by the kind", Desk.told("plain 1;confider 1;wall 2 0;").period(), 2);
         Desk.due("period() by the warmth", Desk.told("clerk 2;clerk 3;wall 2 0;").period(), 2);
+        Desk.due("period(), as frank but another", Desk.told("plain 2;confider 2;wall 2 0;").period(), 2);
+        Desk.due("period(), neither is the same", Desk.told("plain 1;confider 0;wall 2 0;").period(), 2);
         Desk.due("period() by shift", Desk.told("plain 2;plain 1;plain 1;plain 1;plain 1;wall 4 1;").period(), 1);
         FriezeFolk faded = Desk.told("plain 1;upside 3;");
         faded.paint(5, 9);
@@ -161,6 +166,7 @@ public final class EdgesOfBestTest {
         Desk.due("alike() of five by 4: 4 alone", five.alike(), 1);
         Desk.due("alike() on one place", Desk.told("plain 1;plain 1;plain 1;plain 1;plain 1;plain 2;wall 1 0;").alike(), 5);
         Desk.due("alike() by the kind", Desk.told("plain 1;clerk 1;").alike(), 3);
+        Desk.due("alike(), neither is the same", Desk.told("plain 1;confider 0;").alike(), 3);
         Desk.due("alike() of like ones", Desk.told("child 1;child 1;child 1;").alike(), 6);
         Desk.sentence(26, "STATE: there are no BLOCKS.");
         Desk.still(BARE, "alike() of nobody", FriezeFolk::alike, STATE);

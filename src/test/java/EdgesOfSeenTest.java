@@ -206,6 +206,11 @@ public final class EdgesOfSeenTest {
         x.paint(3, 0);
         Desk.due("ask(0), but not here", x.ask(0), 3);
         Desk.due("ask(1), of four", x.ask(1), 1);
+        FriezeFolk pairs = Desk.told("plain 1;plain 1;plain 2;plain 2;plain 3;plain 3;wall 6 4;");
+        pairs.see(0, 1);
+        Desk.due("shifts()", pairs.shifts(), 3);
+        Desk.due("ask(0), those that are not left count for nothing", pairs.ask(0), 1);
+        Desk.due("ask(1), those that are not left count for nothing", pairs.ask(1), 1);
         Desk.still(BUSY, "ask(0)", y -> y.ask(0), BUSY.make().ask(0));
         Desk.sentence(36, "BAD; NONE: none.");
         for (int what = 0; what < 2; what++) {
@@ -213,7 +218,9 @@ public final class EdgesOfSeenTest {
             Desk.still(BARE, "ask(" + what + ") of nobody", y -> y.ask(asked), NONE);
             Desk.due("ask(" + what + ") of one", Desk.told("plain 9;").ask(what), NONE);
             Desk.due("ask(" + what + "), none are left", noneLeft().ask(what), NONE);
-            Desk.due("ask(" + what + "), one is left", oneLeft().ask(what), NONE);
+            for (int shift = 0; shift <= 5; shift++) {
+                Desk.due("ask(" + what + "), shift " + shift + " is left", oneLeft(shift).ask(what), NONE);
+            }
             Desk.due("ask(" + what + "), that is no place", allFadedButOutside().ask(what), NONE);
         }
         Desk.bad("ask", 0, 1, FriezeFolk::ask);
@@ -225,9 +232,9 @@ public final class EdgesOfSeenTest {
         return x;
     }
 
-    private static FriezeFolk oneLeft() {
+    private static FriezeFolk oneLeft(int shift) {
         FriezeFolk x = Desk.told(RISING);
-        x.see(0, 6);
+        x.see(0, shift + 1);
         return x;
     }
 

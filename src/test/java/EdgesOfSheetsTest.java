@@ -369,8 +369,17 @@ public final class EdgesOfSheetsTest {
         Desk.dueEach("count, nothing there", new FriezeFolk(), FriezeFolk::count, 0, 0, 0, NONE, 0, 0, BAD);
         FriezeFolk x = CROWDED.make();
         Desk.dueEach("count, all there can be", x, FriezeFolk::count, 6, 2, 160, 40, 39, 99, BAD);
+        x.text();
+        Desk.dueEach("count behind a text", x, FriezeFolk::count, 0, 0, 0, 40, 3, 0, BAD);
         FriezeFolk most = Desk.told("child 9;child 9;child 9;child 9;child 9;child 9;");
         Desk.due("count(4), most", most.count(4), 54);
+        FriezeFolk fewer = Desk.told("child 9;child 8;child 7;");
+        Desk.due("text() of fewer blocks", Desk.tell(fewer, "plain 1;"), 1);
+        Desk.due("count(4), those that were count no more", fewer.count(4), 1);
+        fewer.keep(0);
+        fewer.print(0, 9);
+        fewer.back(0);
+        Desk.due("count(4), what came behind the image counts no more", fewer.count(4), 1);
         for (int i = 0; i < 12; i++) {
             most.paint(i, 99);
         }

@@ -8,8 +8,8 @@ public final class EdgesOfTextTest {
     /** The text is refused, nothing but the tape is changed by it, whatever there was. */
     private static void refused(String text, int fault, int at) {
         for (Desk.Start start : Desk.Start.values()) {
+            java.util.List<Long> before = Desk.hallOf(start.make());
             FriezeFolk x = start.make();
-            java.util.List<Long> before = Desk.hallOf(x);
             int seen = x.count(0);
             int images = x.count(1);
             x.end(0);
@@ -51,6 +51,19 @@ public final class EdgesOfTextTest {
             }
         }
         Desk.due("another object is by itself", new FriezeFolk().torn(), 0);
+    }
+
+    private static void lastCall() {
+        Desk.sentence(0, "An object is used for at most 512 calls after it has been made; what later calls answer is free.");
+        FriezeFolk x = new FriezeFolk();
+        for (int call = 1; call <= 511; call += 2) {
+            Desk.due("feed(32), call " + call, x.feed(32), 1);
+            Desk.due("end(0), call " + (call + 1), x.end(0), 1);
+        }
+        FriezeFolk y = new FriezeFolk();
+        for (int call = 1; call <= 512; call++) {
+            Desk.due("read(0, 0, 0, 1), call " + call, y.read(0, 0, 0, 1), 0);
+        }
     }
 
     private static void bytesFed() {
@@ -220,6 +233,7 @@ public final class EdgesOfTextTest {
             refused(names[n].substring(0, length - 1) + " 1 1;", 2, 0);
             refused(names[n] + "s 1 1;", 2, 0);
             refused(names[n].substring(1) + " 1 1;", 2, 0);
+            refused("z" + names[n].substring(1) + " 1 1;", 2, 0);
             refused(names[n].substring(0, length - 1) + "z 1 1;", 2, 0);
         }
     }
@@ -394,6 +408,7 @@ public final class EdgesOfTextTest {
 
     public static void main(String[] args) {
         newObject();
+        lastCall();
         bytesFed();
         tapeEnds();
         linesCounted();

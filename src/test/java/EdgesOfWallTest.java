@@ -385,6 +385,12 @@ public final class EdgesOfWallTest {
         Desk.due("rule(8)", x.rule(8), 0);
         Desk.due("drop(0) of none", x.drop(0), 0);
         Desk.still(BUSY, "drop(3) of three", y -> y.drop(3), 3);
+        FriezeFolk dear = Desk.told("roll 5 5;roll 9 1;");
+        Desk.due("cover(9, 0) by both", dear.cover(9, 0), 1);
+        Desk.due("drop(1) of two", dear.drop(1), 2);
+        Desk.due("cover(9, 0), what is dropped covers nothing", dear.cover(9, 0), 10);
+        Desk.due("cover(9, 1)", dear.cover(9, 1), 1);
+        Desk.due("most(0, 9)", dear.most(0, 9), 2);
         Desk.sentence(16, "BAD (n above that, too).");
         Desk.bad("drop", 0, 4, FriezeFolk::drop);
         Desk.still(BARE, "drop(1) of none", y -> y.drop(1), BAD);

@@ -25,11 +25,13 @@ public final class QuotesTest {
         return text.replaceAll("\\s+", " ").trim();
     }
 
-    /** The Terms are 0; a promise begins behind the form of its call. */
+    /** The Terms, and how long an object is used, are 0; a promise begins behind the form of its call. */
     private static Map<Integer, String> sections(String document) {
         Map<Integer, String> sections = new TreeMap<>();
         int from = document.indexOf("## Terms");
         String terms = document.substring(from, document.indexOf("Ahead of the calls", from));
+        int use = document.indexOf("An object is used");
+        terms = document.substring(use, document.indexOf("\n", use) + 1) + terms;
         sections.put(0, oneLine(terms.replaceAll("## Terms|======== \\d|```(text)?", "")));
         Matcher m = Pattern.compile("## Promise (\\d+):[^\n]*\n\n`[^`]*`: ([^\n]*)\n").matcher(document);
         while (m.find()) {

@@ -51,10 +51,9 @@ final class Desk {
 
     static final String ALL =
         "plain 5;confider 4;child 7;clerk 9;wall 11 2;window 3 2;upside 6;roll 5 3;roll 3 2;roll 9 5;";
-    private static final String MOST =
-        "plain 9;confider 8;child 7;clerk 6;child 5;child 4;wall 12 5;window 11 0;upside 11;"
-        + "roll 9 8;roll 8 9;roll 7 7;roll 6 5;";
-    /** Most of these answers end where the room of 512 calls of one object would be passed, so each has a new object. */
+    private static final int[][] MOST_BLOCKS = {{0, 9}, {1, 8}, {2, 7}, {3, 6}, {2, 5}, {2, 4}};
+    private static final int[][] MOST_ROLLS = {{9, 8}, {8, 9}, {7, 7}, {6, 5}};
+    /** An object has 512 calls, too few for all of these, so each view has a new object. */
     private static final View[] VIEWS = {
         Desk::drawAll, Desk::drawHidden, Desk::drawSeen,
         (x, lines) -> drawImage(x, 0, lines), (x, lines) -> drawImage(x, 1, lines),
@@ -279,7 +278,16 @@ final class Desk {
     }
 
     private static void makeCrowded(FriezeFolk x) {
-        tell(x, MOST);
+        for (int[] block : MOST_BLOCKS) {
+            x.print(block[0], block[1]);
+        }
+        for (int[] roll : MOST_ROLLS) {
+            x.stock(roll[0], roll[1]);
+        }
+        x.set(1, 5);
+        x.set(2, 11);
+        x.set(3, 0);
+        x.turn(11);
         for (int n = 0; n < 33; n++) {
             x.years(30);
         }
